@@ -13,7 +13,7 @@ final class Model {
             "FFFFFFFF00000001000000000000000000000000FFFFFFFFFFFFFFFFFFFFFFFF", 16);
     private static final BigInteger N = new BigInteger(
             "FFFFFFFF00000000FFFFFFFFFFFFFFFFBCE6FAADA7179E84F3B9CAC2FC632551", 16);
-    private static final BigInteger[] G = {
+    static final BigInteger[] G = {
         new BigInteger("6B17D1F2E12C4247F8BCE6E563A440F277037D812DEB33A0F4A13945D898C296", 16),
         new BigInteger("4FE342E2FE1A7F9B8EE7EB4A7C0F9E162BCE33576B315ECECBB6406837BF51F5", 16)};
     private static final BigInteger THREE = BigInteger.valueOf(3);
@@ -496,7 +496,7 @@ final class Model {
         return new BigInteger[] {x, slope.multiply(a[0].subtract(x)).subtract(a[1]).mod(P)};
     }
 
-    private static BigInteger[] times(BigInteger number, BigInteger[] point) {
+    static BigInteger[] times(BigInteger number, BigInteger[] point) {
         BigInteger[] sum = null;
         for (int i = number.bitLength() - 1; i >= 0; i--) {
             sum = add(sum, sum);
