@@ -233,8 +233,7 @@ public final class KeyFob {
 
     private void fillKey(Key made) {
         vault.fresh(seed);
-        signer.drawSecret(made.secret, seed);
-        signer.publish(made.point, made.secret);
+        signer.drawSecret(made, seed);
         hash.begin();
         hash.putAll(made.secret, 0, HASH_BYTES);
         hash.end(seed);
@@ -1337,18 +1336,14 @@ public final class KeyFob {
             made = 0;
         }
 
-        void drawSecret(int[] secret, int[] seed) {
+        void drawSecret(Key made, int[] seed) {
             Field.readBytes(k, seed, 0);
             order.draw(d, k);
-            Field.writeBytes(secret, 0, d);
-        }
-
-        void publish(int[] point, int[] secret) {
-            Field.readBytes(d, secret, 0);
+            Field.writeBytes(made.secret, 0, d);
             curve.times(sum, curve.base, d);
             curve.flatten(sum);
-            Field.writeBytes(point, 0, sum.x);
-            Field.writeBytes(point, 32, sum.y);
+            Field.writeBytes(made.point, 0, sum.x);
+            Field.writeBytes(made.point, 32, sum.y);
         }
 
         void sign(Key signing, Row data, int[] word) {

@@ -21,6 +21,7 @@ public final class InsidesTest {
         draws(held(signer, "order"));
         multiples(curve);
         sums(curve);
+        verdicts();
         DUE.end();
     }
 
@@ -163,6 +164,43 @@ public final class InsidesTest {
                     : new BigInteger(256, random);
             call(curve, "times", to, comb, limbs(number));
             isPoint(number.toString(16) + " times 77 G", flat(curve, to), Model.times(number, q));
+        }
+    }
+
+    /** What check and forged say of signatures that the fob would not make itself. */
+    private static void verdicts() throws ReflectiveOperationException {
+        Desk desk = new Desk();
+        desk.make("h", "u");
+        int[] signature = (int[]) held(held(desk.fob, "signer"), "signature");
+        int[] right = signature.clone();
+        BigInteger s = new BigInteger(1, Bytes.part(Bytes.of(right), 32, 32));
+        int[] bits = {0, 1, 7, 8, 100, 255, 256, 263, 264, 400, 504, 510, 511};
+        for (int bit : bits) {
+            signature[bit / 8] ^= 128 >> bit % 8;
+            DUE.is("check() with bit " + bit + " wrong", desk.fob.check(), 0);
+            DUE.is("forged(" + bit + ") sets it right", desk.fob.forged(bit), 1);
+            DUE.is("forged of another", desk.fob.forged(511 - bit), 0);
+            System.arraycopy(right, 0, signature, 0, 64);
+        }
+        put(signature, 32, N.subtract(s));
+        DUE.is("n - s is right too", desk.fob.check(), 1);
+        BigInteger[] wrong = {BigInteger.ZERO, N, N.add(BigInteger.ONE), TOP.subtract(BigInteger.ONE)};
+        for (BigInteger number : wrong) {
+            System.arraycopy(right, 0, signature, 0, 64);
+            put(signature, 32, number);
+            DUE.is("s = " + number.toString(16), desk.fob.check(), 0);
+            System.arraycopy(right, 0, signature, 0, 64);
+            put(signature, 0, number);
+            DUE.is("r = " + number.toString(16), desk.fob.check(), 0);
+        }
+        System.arraycopy(right, 0, signature, 0, 64);
+        DUE.is("check()", desk.fob.check(), 1);
+    }
+
+    private static void put(int[] row, int from, BigInteger number) {
+        byte[] bytes = Model.row32(number);
+        for (int i = 0; i < 32; i++) {
+            row[from + i] = bytes[i] & 255;
         }
     }
 

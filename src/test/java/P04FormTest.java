@@ -44,6 +44,12 @@ public final class P04FormTest {
             most[1 + 2 * i] = 9 + i;
         }
         form("15 pairs", MAP, most);
+        int[] more = java.util.Arrays.copyOf(most, 33);
+        more[0] = 0xB0;
+        for (int i = 0; i < 16; i++) {
+            more[1 + 2 * i] = 8 + i;
+        }
+        form("16 pairs", NO_MAP, more);
         most[0] = 0xAE;
         form("14 pairs told, 15 there", NO_MAP, most);
     }
@@ -76,7 +82,9 @@ public final class P04FormTest {
         form("1A", NO_MAP, 0xA1, 5, 0x1A, 0, 1, 0, 0);
         form("kind 1 as a number of one byte", 0, 0xA1, 1, 1);
         form("kind 24", 2, 0xA1, 1, 0x18, 24);
-        form("kind 256 + 1", 2, 0xA1, 1, 0x19, 1, 1);
+        for (int low = 0; low < 256; low++) {
+            form("kind 256 + " + low, 2, 0xA1, 1, 0x19, 1, low);
+        }
     }
 
     private static void rowsAndTexts() {
@@ -122,6 +130,10 @@ public final class P04FormTest {
         most[2] = 0x8F;
         java.util.Arrays.fill(most, 3, 18, 0x40);
         form("15 ROWS", MAP, most);
+        int[] more = java.util.Arrays.copyOf(most, 19);
+        more[2] = 0x90;
+        more[18] = 0x40;
+        form("16 ROWS", NO_MAP, more);
         form("90", NO_MAP, 0xA1, 5, 0x90);
         form("98 and 16", NO_MAP, 0xA1, 5, 0x98, 16);
         form("9F and FF", NO_MAP, 0xA1, 5, 0x9F, 0xFF);
@@ -133,7 +145,9 @@ public final class P04FormTest {
             list[1] = (byte) 0x8F;
             full = Bytes.join(full, list);
         }
-        DUE.is("15 LISTS of 15 ROWS", new Desk().send(Desk.PIN, full), MAP);
+        Desk desk = new Desk();
+        DUE.is("15 LISTS of 15 ROWS", desk.send(Desk.PIN, full), MAP);
+        DUE.is("the same again", desk.send(Desk.PIN, full), MAP);
     }
 
     private static void others() {
