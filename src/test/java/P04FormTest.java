@@ -118,6 +118,7 @@ public final class P04FormTest {
         form("one ROW too many", NO_MAP, 0xA1, 5, 0x81, 0x40, 0x40);
         form("a TEXT in a LIST", NO_MAP, 0xA1, 5, 0x81, 0x60);
         form("a NUMBER in a LIST", NO_MAP, 0xA1, 5, 0x81, 0);
+        form("a NUMBER in a LIST that could be a NAME", NO_MAP, 0xA2, 5, 0x81, 6, 0);
         form("yes in a LIST", NO_MAP, 0xA1, 5, 0x81, 0xF5);
         form("a LIST in a LIST", NO_MAP, 0xA1, 5, 0x81, 0x80);
         form("a ROW of a wrong form in a LIST", NO_MAP, 0xA1, 5, 0x81, 0x58, 1, 0);
@@ -158,8 +159,13 @@ public final class P04FormTest {
         form("a map", NO_MAP, 0xA1, 5, 0xA0);
         form("a negative number", NO_MAP, 0xA1, 5, 0x20);
         form("a tag", NO_MAP, 0xA1, 5, 0xC0, 0);
-        byte[] whole = Bytes.join(new MapOf().row(4, new byte[255]).text(6, new byte[130]).bytes(), new byte[0]);
-        DUE.is("a map of " + whole.length, new Desk().send(Desk.PIN, whole), MAP);
+        byte[] whole = new MapOf().row(4, new byte[255]).text(6, new byte[136]).number(7, 0).bytes();
+        DUE.is("a map as long as the tape", whole.length, 400);
+        DUE.is("it is one", new Desk().send(Desk.PIN, whole), MAP);
+        byte[] cut = new MapOf().row(4, new byte[255]).text(6, new byte[137]).number(7, 0).bytes();
+        DUE.is("one that the tape cuts off", new Desk().send(Desk.PIN, Bytes.part(cut, 0, 400)), NO_MAP);
+        cut = new MapOf().row(4, new byte[255]).text(6, new byte[134]).row(7, new byte[9]).bytes();
+        DUE.is("one that it cuts off later", new Desk().send(Desk.PIN, Bytes.part(cut, 0, 400)), NO_MAP);
     }
 
     /** A VALUE of its head alone is one just for these. */
