@@ -36,6 +36,11 @@ final class Bytes {
         return of((int) (number >> 24), (int) (number >> 16), (int) (number >> 8), (int) number);
     }
 
+    /** A number as a row of 32 bytes. */
+    static byte[] wide(long number) {
+        return join(new byte[24], four(number >> 32), four(number));
+    }
+
     static byte[] join(byte[]... parts) {
         byte[] all = new byte[0];
         for (byte[] part : parts) {
@@ -48,6 +53,13 @@ final class Bytes {
 
     static byte[] part(byte[] bytes, int from, int n) {
         return Arrays.copyOfRange(bytes, from, from + n);
+    }
+
+    /** The same bytes with one bit as the other one, 0 being the highest of the first byte. */
+    static byte[] turned(byte[] bytes, int bit) {
+        byte[] other = bytes.clone();
+        other[bit / 8] ^= (byte) (128 >> bit % 8);
+        return other;
     }
 
     static byte[] hash(byte[]... parts) {

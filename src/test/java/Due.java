@@ -19,6 +19,14 @@ final class Due {
         }
     }
 
+    void is(String call, String got, String want) {
+        asked++;
+        if (!got.equals(want)) {
+            wrong++;
+            System.out.println(call + " answered " + got + ", due is " + want);
+        }
+    }
+
     void holds(String what, boolean so) {
         asked++;
         if (!so) {
@@ -31,8 +39,13 @@ final class Due {
         return wrong != 0;
     }
 
+    /** A test that asks nothing shows nothing. */
+    boolean isRight() {
+        return wrong == 0 && asked != 0;
+    }
+
     void end() {
-        if (wrong != 0 || asked == 0) {
+        if (!isRight()) {
             System.out.println(wrong + " of " + asked + " answers are not as due");
             System.exit(1);
         }

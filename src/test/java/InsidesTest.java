@@ -5,10 +5,7 @@ import java.util.Random;
 
 /** Hash, numbers and points at edges that no run of calls can be made to reach. */
 public final class InsidesTest {
-    private static final BigInteger P = new BigInteger(
-            "FFFFFFFF00000001000000000000000000000000FFFFFFFFFFFFFFFFFFFFFFFF", 16);
-    private static final BigInteger N = new BigInteger(
-            "FFFFFFFF00000000FFFFFFFFFFFFFFFFBCE6FAADA7179E84F3B9CAC2FC632551", 16);
+    private static final BigInteger P = PlainCurve.P, N = PlainCurve.N;
     private static final BigInteger TOP = BigInteger.ONE.shiftLeft(256);
     private static final Due DUE = new Due();
 
@@ -122,10 +119,12 @@ public final class InsidesTest {
     private static void draws(Object order) throws ReflectiveOperationException {
         long[] to = new long[10];
         for (int i = -5; i <= 5; i++) {
-            BigInteger[] near = {N.add(BigInteger.valueOf(i)), BigInteger.valueOf(5 + i), TOP.subtract(BigInteger.valueOf(6 + i))};
+            BigInteger[] near = {N.add(BigInteger.valueOf(i)), BigInteger.valueOf(5 + i),
+                TOP.subtract(BigInteger.valueOf(6 + i))};
             for (BigInteger seed : near) {
                 call(order, "draw", to, limbs(seed));
-                isNumber("a draw from " + seed.toString(16), to, new BigInteger(1, Model.scalar(Model.row32(seed))));
+                isNumber("a draw from " + seed.toString(16), to,
+                        PlainCurve.number(PlainCurve.scalar(PlainCurve.row32(seed))));
             }
         }
     }
@@ -149,12 +148,12 @@ public final class InsidesTest {
                     : i < 18 ? BigInteger.ONE.shiftLeft(64 * (i - 14)) : i == 18 ? TOP.subtract(BigInteger.ONE)
                     : new BigInteger(256, random);
             call(curve, "times", to, held(curve, "base"), limbs(number));
-            isPoint(number.toString(16) + " times G", flat(curve, to), Model.times(number, Model.G));
+            isPoint(number.toString(16) + " times G", flat(curve, to), PlainCurve.times(number, PlainCurve.G));
         }
         Object[] comb = (Object[]) held(make("Signer"), "ownerComb");
-        BigInteger[] q = Model.times(BigInteger.valueOf(77), Model.G);
+        BigInteger[] q = PlainCurve.times(BigInteger.valueOf(77), PlainCurve.G);
         int[] row = new int[64];
-        byte[] bytes = Bytes.join(Model.row32(q[0]), Model.row32(q[1]));
+        byte[] bytes = Bytes.join(PlainCurve.row32(q[0]), PlainCurve.row32(q[1]));
         for (int i = 0; i < 64; i++) {
             row[i] = bytes[i] & 255;
         }
@@ -163,7 +162,7 @@ public final class InsidesTest {
             BigInteger number = i < 3 ? BigInteger.valueOf(i) : i == 3 ? N : i == 4 ? N.subtract(BigInteger.ONE)
                     : new BigInteger(256, random);
             call(curve, "times", to, comb, limbs(number));
-            isPoint(number.toString(16) + " times 77 G", flat(curve, to), Model.times(number, q));
+            isPoint(number.toString(16) + " times 77 G", flat(curve, to), PlainCurve.times(number, q));
         }
     }
 
@@ -171,7 +170,7 @@ public final class InsidesTest {
     private static void verdicts() throws ReflectiveOperationException {
         Desk desk = new Desk();
         desk.make("h", "u");
-        int[] signature = (int[]) held(held(desk.fob, "signer"), "signature");
+        int[] signature = (int[]) held(held(desk.fob.inner, "signer"), "signature");
         int[] right = signature.clone();
         BigInteger s = new BigInteger(1, Bytes.part(Bytes.of(right), 32, 32));
         int[] bits = {0, 1, 7, 8, 100, 255, 256, 263, 264, 400, 504, 510, 511};
@@ -198,7 +197,7 @@ public final class InsidesTest {
     }
 
     private static void put(int[] row, int from, BigInteger number) {
-        byte[] bytes = Model.row32(number);
+        byte[] bytes = PlainCurve.row32(number);
         for (int i = 0; i < 32; i++) {
             row[from + i] = bytes[i] & 255;
         }
@@ -216,7 +215,7 @@ public final class InsidesTest {
                 call(curve, "times", q, base, limbs(b));
                 call(curve, "add", p, p, q);
                 isPoint(a.toString(16) + " + " + b.toString(16), flat(curve, p),
-                        Model.times(a.add(b).mod(N), Model.G));
+                        PlainCurve.times(a.add(b).mod(N), PlainCurve.G));
             }
         }
     }

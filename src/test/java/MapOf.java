@@ -1,34 +1,23 @@
-import java.io.ByteArrayOutputStream;
+import java.util.TreeMap;
 
-/** Writes a map in THE FORM, pair by pair. */
+/** Writes a map in THE FORM; a NAME that comes again takes the place of the one before. */
 final class MapOf {
-    private final ByteArrayOutputStream pairs = new ByteArrayOutputStream();
-    private int size;
+    private final TreeMap<Integer, byte[]> pairs = new TreeMap<>();
 
     MapOf number(int name, int number) {
-        begin(name);
         if (number < 24) {
-            pairs.write(number);
-        } else if (number < 256) {
-            pairs.write(0x18);
-            pairs.write(number);
-        } else {
-            pairs.write(0x19);
-            pairs.write(number >> 8);
-            pairs.write(number);
+            return value(name, number);
         }
-        return this;
+        return number < 256 ? value(name, 0x18, number) : value(name, 0x19, number >> 8, number);
     }
 
     MapOf row(int name, byte[] bytes) {
-        begin(name);
-        bytes(0x40, bytes);
+        pairs.put(name, sized(0x40, bytes));
         return this;
     }
 
     MapOf text(int name, byte[] bytes) {
-        begin(name);
-        bytes(0x60, bytes);
+        pairs.put(name, sized(0x60, bytes));
         return this;
     }
 
@@ -37,36 +26,39 @@ final class MapOf {
     }
 
     MapOf list(int name, byte[]... rows) {
-        begin(name);
-        pairs.write(0x80 + rows.length);
+        byte[] all = Bytes.of(0x80 + rows.length);
         for (byte[] row : rows) {
-            bytes(0x40, row);
+            all = Bytes.join(all, sized(0x40, row));
         }
+        pairs.put(name, all);
         return this;
     }
 
     MapOf flag(int name, boolean yes) {
-        begin(name);
-        pairs.write(yes ? 0xF5 : 0xF4);
+        return value(name, yes ? 0xF5 : 0xF4);
+    }
+
+    /** A VALUE byte by byte. */
+    MapOf value(int name, int... bytes) {
+        pairs.put(name, Bytes.of(bytes));
+        return this;
+    }
+
+    MapOf without(int name) {
+        pairs.remove(name);
         return this;
     }
 
     byte[] bytes() {
-        return Bytes.join(Bytes.of(0xA0 + size), pairs.toByteArray());
-    }
-
-    private void begin(int name) {
-        size++;
-        pairs.write(name);
-    }
-
-    private void bytes(int head, byte[] bytes) {
-        if (bytes.length < 24) {
-            pairs.write(head + bytes.length);
-        } else {
-            pairs.write(head + 0x18);
-            pairs.write(bytes.length);
+        byte[] all = Bytes.of(0xA0 + pairs.size());
+        for (int name : pairs.keySet()) {
+            all = Bytes.join(all, Bytes.of(name), pairs.get(name));
         }
-        pairs.write(bytes, 0, bytes.length);
+        return all;
+    }
+
+    private static byte[] sized(int head, byte[] bytes) {
+        byte[] start = bytes.length < 24 ? Bytes.of(head + bytes.length) : Bytes.of(head + 0x18, bytes.length);
+        return Bytes.join(start, bytes);
     }
 }

@@ -1,4 +1,3 @@
-import java.math.BigInteger;
 import java.util.ArrayList;
 import java.util.Arrays;
 import java.util.List;
@@ -9,15 +8,6 @@ import java.util.TreeMap;
  * to compare the fob with on runs that nobody wrote by hand.
  */
 final class Model {
-    private static final BigInteger P = new BigInteger(
-            "FFFFFFFF00000001000000000000000000000000FFFFFFFFFFFFFFFFFFFFFFFF", 16);
-    private static final BigInteger N = new BigInteger(
-            "FFFFFFFF00000000FFFFFFFFFFFFFFFFBCE6FAADA7179E84F3B9CAC2FC632551", 16);
-    static final BigInteger[] G = {
-        new BigInteger("6B17D1F2E12C4247F8BCE6E563A440F277037D812DEB33A0F4A13945D898C296", 16),
-        new BigInteger("4FE342E2FE1A7F9B8EE7EB4A7C0F9E162BCE33576B315ECECBB6406837BF51F5", 16)};
-    private static final BigInteger THREE = BigInteger.valueOf(3);
-
     static final class Kept {
         byte[] house, user, d, id, point;
         long counter;
@@ -113,9 +103,7 @@ final class Model {
         if (signatures == 0) {
             return -1;
         }
-        byte[] other = signature.clone();
-        other[bit / 8] ^= (byte) (128 >> bit % 8);
-        return verdict(other);
+        return verdict(Bytes.turned(signature, bit));
     }
 
     int count(int what) {
@@ -328,10 +316,9 @@ final class Model {
         Kept made = new Kept();
         made.house = house;
         made.user = user;
-        made.d = scalar(fresh());
+        made.d = PlainCurve.scalar(fresh());
         made.id = Bytes.part(Bytes.hash(made.d), 0, 16);
-        BigInteger[] point = times(new BigInteger(1, made.d), G);
-        made.point = Bytes.join(row32(point[0]), row32(point[1]));
+        made.point = PlainCurve.point(made.d);
         keys.add(made);
         byte[] data = Bytes.join(house, Bytes.of(pin == null ? 65 : 69), Bytes.four(0), made.id, made.point);
         sign(made, data);
@@ -469,70 +456,14 @@ final class Model {
         return 0;
     }
 
-    // ---- the curve
-
-    static byte[] row32(BigInteger number) {
-        byte[] bytes = Bytes.join(new byte[32], number.toByteArray());
-        return Bytes.part(bytes, bytes.length - 32, 32);
-    }
-
-    /** 1 + (a row modulo (n - 1)), as a row. */
-    static byte[] scalar(byte[] seed) {
-        return row32(new BigInteger(1, seed).mod(N.subtract(BigInteger.ONE)).add(BigInteger.ONE));
-    }
-
-    /** None is null. */
-    private static BigInteger[] add(BigInteger[] a, BigInteger[] b) {
-        if (a == null || b == null) {
-            return a == null ? b : a;
-        }
-        if (a[0].equals(b[0]) && a[1].add(b[1]).mod(P).signum() == 0) {
-            return null;
-        }
-        BigInteger slope = a[0].equals(b[0])
-                ? a[0].multiply(a[0]).multiply(THREE).subtract(THREE).multiply(a[1].add(a[1]).modInverse(P))
-                : b[1].subtract(a[1]).multiply(b[0].subtract(a[0]).modInverse(P));
-        BigInteger x = slope.multiply(slope).subtract(a[0]).subtract(b[0]).mod(P);
-        return new BigInteger[] {x, slope.multiply(a[0].subtract(x)).subtract(a[1]).mod(P)};
-    }
-
-    static BigInteger[] times(BigInteger number, BigInteger[] point) {
-        BigInteger[] sum = null;
-        for (int i = number.bitLength() - 1; i >= 0; i--) {
-            sum = add(sum, sum);
-            if (number.testBit(i)) {
-                sum = add(sum, point);
-            }
-        }
-        return sum;
-    }
-
     private void sign(Kept kept, byte[] data) {
         signedHash = Bytes.hash(data, word);
         signedPoint = kept.point;
-        BigInteger h = new BigInteger(1, signedHash);
-        BigInteger r = BigInteger.ZERO;
-        BigInteger s = BigInteger.ZERO;
-        for (int i = 0; r.signum() == 0 || s.signum() == 0; i++) {
-            BigInteger k = new BigInteger(1, scalar(Bytes.hash(kept.d, signedHash, Bytes.of(i))));
-            r = times(k, G)[0].mod(N);
-            s = h.add(r.multiply(new BigInteger(1, kept.d))).multiply(k.modInverse(N)).mod(N);
-        }
-        signature = Bytes.join(row32(r), row32(s));
+        signature = PlainCurve.signature(kept.d, signedHash);
         signatures++;
     }
 
     private int verdict(byte[] rs) {
-        BigInteger r = new BigInteger(1, Bytes.part(rs, 0, 32));
-        BigInteger s = new BigInteger(1, Bytes.part(rs, 32, 32));
-        if (r.signum() == 0 || s.signum() == 0 || r.compareTo(N) >= 0 || s.compareTo(N) >= 0) {
-            return 0;
-        }
-        BigInteger w = s.modInverse(N);
-        BigInteger[] owner = {new BigInteger(1, Bytes.part(signedPoint, 0, 32)),
-            new BigInteger(1, Bytes.part(signedPoint, 32, 32))};
-        BigInteger[] sum = add(times(new BigInteger(1, signedHash).multiply(w).mod(N), G),
-                times(r.multiply(w).mod(N), owner));
-        return sum != null && sum[0].mod(N).equals(r) ? 1 : 0;
+        return PlainCurve.isRight(rs, signedHash, signedPoint) ? 1 : 0;
     }
 }

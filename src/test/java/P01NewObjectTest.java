@@ -1,30 +1,57 @@
-/** Promise 1: a new object is as at first, with an empty tape and no OUT. */
+/** Promise 1: a new object. */
 public final class P01NewObjectTest {
     public static void main(String[] args) {
-        Due due = new Due();
-        int[] first = {0, 8, 0, 0, 0, 0, 0, 0, 1, 0};
-        KeyFob fob = new KeyFob();
-        for (int what = 0; what < first.length; what++) {
-            due.is("count(" + what + ")", fob.count(what), first[what]);
-        }
-        due.is("out(0)", fob.out(0), KeyFob.NONE);
-        due.is("key(0, 0, 0)", fob.key(0, 0, 0), KeyFob.NONE);
-        due.is("check()", fob.check(), KeyFob.NONE);
+        Sentences.run(P01NewObjectTest.class);
+    }
 
+    @Says("`KeyFob()`: As at first;")
+    static void asAtFirst(Due due) {
         Desk desk = new Desk();
-        byte[] master = Bytes.hash(Bytes.of(0));
-        due.is("make", desk.make("a", "b"), 0);
-        due.is("the secret is the second FRESH row", desk.key(0, 2),
-                Bytes.part(Bytes.hash(Model.scalar(Bytes.hash(master, Bytes.four(1)))), 0, 16));
+        due.is("all that is counted", desk.counts(), "0 8 0 0 0 0 0 0 1 0");
+        due.is("check()", desk.fob.check(), KeyFob.NONE);
+        due.is("key(0, 0, 0)", desk.fob.key(0, 0, 0), KeyFob.NONE);
+        due.is("NEXT", desk.fob.send(Desk.NEXT), 48);
+        due.is("RESET", desk.fob.send(Desk.RESET), 39);
+        due.is("MAKE", desk.make("h", "u"), 0);
+        due.is("OUT", desk.out(), Desk.made("h", 1, 65));
+    }
 
+    /** Calls on one object, also its RESET, do not reach another. */
+    @Says("`KeyFob()`: As at first;")
+    static void objectsAreApart(Due due) {
+        Desk desk = new Desk();
         Desk other = new Desk();
-        due.is("an object does not see another's calls", other.fob.count(0), 0);
-        due.is("make", other.make("a", "b"), 0);
-        due.is("the same calls give the same answers", other.out(), desk.out());
+        desk.fob.touch();
+        desk.fob.send(Desk.RESET);
+        desk.make("h", "u");
+        desk.setPin(Desk.PIN_A);
+        desk.get("h");
+        desk.fob.feed(1, 2, 3, 4, 5);
+        due.is("one made before", other.counts(), "0 8 0 0 0 0 0 0 1 0");
+        due.is("MAKE", other.make("h", "u"), 0);
+        due.is("OUT", other.out(), Desk.made("h", 1, 65));
+        Desk later = new Desk();
+        due.is("one made later", later.counts(), "0 8 0 0 0 0 0 0 1 0");
+        due.is("MAKE", later.make("h", "u"), 0);
+        due.is("OUT", later.out(), Desk.made("h", 1, 65));
+    }
 
-        due.is("NONE", KeyFob.NONE, -1);
-        due.is("OUTSIDE", KeyFob.OUTSIDE, -3);
-        due.is("FULL", KeyFob.FULL, -5);
-        due.end();
+    @Says("an empty tape, no")
+    static void emptyTape(Due due) {
+        Desk desk = new Desk();
+        due.is("count(7)", desk.fob.count(7), 0);
+        due.is("trim(1)", desk.fob.trim(1), KeyFob.OUTSIDE);
+        due.is("trim(0)", desk.fob.trim(0), 0);
+        due.is("PIN has no map", desk.fob.send(Desk.PIN), 18);
+        due.is("the first feed", new Desk().fob.feed(0, 0, 0, 0, 0), 20);
+    }
+
+    @Says("an empty tape, no OUT.")
+    static void noOut(Due due) {
+        Desk desk = new Desk();
+        due.is("count(6)", desk.fob.count(6), 0);
+        due.is("out(0)", desk.fob.out(0), KeyFob.NONE);
+        due.is("keep(0, 1)", desk.fob.keep(0, 1), KeyFob.OUTSIDE);
+        due.is("keep(0, 0)", desk.fob.keep(0, 0), 0);
     }
 }

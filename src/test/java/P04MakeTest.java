@@ -1,152 +1,250 @@
-/** Promise 4: MAKE. */
+/** Terms 4: MAKE. */
 public final class P04MakeTest {
-    private static final Due DUE = new Due();
+    private static final byte[] OTHER = Bytes.run(9, 16);
 
     public static void main(String[] args) {
-        answer();
-        touchIsUsed();
-        excluded();
-        again();
-        full();
-        proof();
-        order();
-        DUE.end();
+        Sentences.run(P04MakeTest.class);
     }
 
-    private static void answer() {
-        Desk desk = new Desk();
-        DUE.is("make", desk.make("house.example", "user"), 0);
-        byte[] point = desk.key(0, 4);
-        byte[] id = desk.key(0, 2);
-        byte[] data = Bytes.join(Bytes.hash(Bytes.text("house.example")), Bytes.of(65), Bytes.four(0), id, point);
-        byte[] out = desk.out();
-        DUE.is("bytes of OUT", out.length, 188);
-        DUE.is("OUT up to DATA", Bytes.part(out, 0, 4), Bytes.of(0xA2, 1, 0x58, 117));
-        DUE.is("DATA", Bytes.part(out, 4, 117), data);
-        DUE.is("OUT up to the SIGNATURE", Bytes.part(out, 121, 3), Bytes.of(2, 0x58, 64));
-        DUE.holds("the SIGNATURE is one of DATA and WORD",
-                Desk.isSigned(Bytes.join(data, Desk.WORD), point, Bytes.part(out, 124, 64)));
-        DUE.is("TURN", desk.fob.count(8), 2);
-        DUE.is("USER", desk.key(0, 1), Bytes.text("user"));
-        DUE.is("COUNTER", desk.key(0, 3), Bytes.four(0));
+    private static MapOf map() {
+        return Desk.makeMap("h", "u");
     }
 
-    private static void touchIsUsed() {
-        Desk desk = new Desk();
-        DUE.is("without a touch", desk.send(Desk.MAKE, Desk.makeMap("h", "u")), 39);
-        DUE.is("no KEY", desk.fob.count(0), 0);
-        DUE.is("TURN", desk.fob.count(8), 1);
-        desk.fob.touch();
-        DUE.is("with a touch", desk.send(Desk.MAKE, Desk.makeMap("h", "u")), 0);
-        DUE.is("TOUCHED", desk.fob.count(4), 0);
-        DUE.is("without another touch", desk.send(Desk.MAKE, Desk.makeMap("h", "v")), 39);
-        desk.fob.touch();
-        DUE.is("an empty map", desk.send(Desk.MAKE, new MapOf()), 20);
-        DUE.is("a STATUS leaves the touch", desk.fob.count(4), 1);
+    private static NameOf name(Due due, int name) {
+        return new NameOf(due, Desk.MAKE, name, P04MakeTest::map, 39);
     }
 
-    private static void excluded() {
+    /** A fob with a PIN and the TOKEN of TURN 1, TOUCHED. */
+    private static Desk withPin() {
         Desk desk = new Desk();
-        desk.make("h", "u");
-        desk.make("other", "u");
-        byte[] id = desk.key(0, 2);
-        byte[] near = id.clone();
-        near[15] ^= 1;
-        desk.fob.touch();
-        DUE.is("ID of this HOUSE", desk.send(Desk.MAKE, Desk.makeMap("h", "v").list(5, near, id)), 25);
-        DUE.is("for the same USER too", desk.send(Desk.MAKE, Desk.makeMap("h", "u").list(5, id)), 25);
-        DUE.is("TOUCHED stays", desk.fob.count(4), 1);
-        DUE.is("KEYS stay", desk.fob.count(0), 2);
-        DUE.is("an ID that is none", desk.send(Desk.MAKE, Desk.makeMap("h", "v").list(5, near)), 0);
-        desk.fob.touch();
-        DUE.is("ID of another HOUSE", desk.send(Desk.MAKE, Desk.makeMap("other", "v").list(5, id)), 0);
-    }
-
-    private static void again() {
-        Desk desk = new Desk();
-        desk.make("h", "a");
-        desk.make("h", "b");
-        desk.make("i", "a");
-        byte[] first = desk.key(0, 2);
-        byte[] second = desk.key(1, 2);
-        byte[] third = desk.key(2, 2);
-        desk.fob.advance(0, 7);
-        DUE.is("make again", desk.make("h", "a"), 0);
-        DUE.is("KEYS", desk.fob.count(0), 3);
-        DUE.is("the second is first", desk.key(0, 2), second);
-        DUE.is("the third is second", desk.key(1, 2), third);
-        DUE.is("the new one is last", desk.key(2, 1), Bytes.text("a"));
-        DUE.is("its HOUSE", desk.key(2, 0), Bytes.hash(Bytes.text("h")));
-        DUE.is("its COUNTER", desk.key(2, 3), Bytes.four(0));
-        DUE.holds("its ID is another", !Bytes.hex(desk.key(2, 2)).equals(Bytes.hex(first)));
-        DUE.is("the old one is not FOUND", desk.send(Desk.GET, Desk.getMap("h").list(3, first)), 46);
-        DUE.is("a USER that begins alike is another", desk.make("h", "ab"), 0);
-        DUE.is("KEYS", desk.fob.count(0), 4);
-        DUE.is("a shorter USER in a used place", desk.key(3, 1), Bytes.text("ab"));
-    }
-
-    private static void full() {
-        Desk desk = new Desk();
-        for (int i = 0; i < 10; i++) {
-            DUE.is("make " + i, desk.make(i % 2 == 0 ? "even" : "odd", "user" + i), 0);
-        }
-        desk.fob.touch();
-        DUE.is("an eleventh", desk.send(Desk.MAKE, Desk.makeMap("even", "user10")), 40);
-        DUE.is("HOUSE and USER of two KEYS", desk.send(Desk.MAKE, Desk.makeMap("even", "user1")), 40);
-        DUE.is("TOUCHED stays", desk.fob.count(4), 1);
-        DUE.is("TURN stays", desk.fob.count(8), 11);
-        DUE.is("one that is there", desk.send(Desk.MAKE, Desk.makeMap("even", "user4")), 0);
-        DUE.is("KEYS", desk.fob.count(0), 10);
-        DUE.is("it is the last", desk.key(9, 1), Bytes.text("user4"));
-        DUE.is("the one behind it moved", desk.key(4, 1), Bytes.text("user5"));
-        DUE.is("40 without a touch too", desk.send(Desk.MAKE, Desk.makeMap("odd", "user4")), 40);
-        DUE.is("all of one HOUSE are FOUND", desk.get("even"), 0);
-        DUE.is("four wait", desk.fob.count(5), 4);
-    }
-
-    private static void proof() {
-        Desk desk = new Desk();
-        byte[] wrong = Bytes.run(9, 16);
-        desk.fob.touch();
-        DUE.is("without a PIN, PROOF is not looked at", desk.send(Desk.MAKE, Desk.makeMap("h", "u").row(8, wrong)), 0);
-        DUE.is("the byte", desk.fob.out(36), 65);
         desk.setPin(Desk.PIN_A);
-        byte[] proof = Bytes.proof(desk.token(Desk.PIN_A), Desk.WORD);
         desk.fob.touch();
-        DUE.is("no PROOF", desk.send(Desk.MAKE, Desk.makeMap("h", "u")), 54);
-        DUE.is("wrong PROOF", desk.send(Desk.MAKE, Desk.makeMap("h", "u").row(8, wrong)), 51);
-        for (int bit = 0; bit < 128; bit += 9) {
-            byte[] near = proof.clone();
-            near[bit / 8] ^= (byte) (128 >> bit % 8);
-            DUE.is("PROOF with bit " + bit + " wrong", desk.send(Desk.MAKE, Desk.makeMap("h", "u").row(8, near)), 51);
+        return desk;
+    }
+
+    @Says("MAKE (1): 1 r! 32 the WORD;")
+    static void word(Due due) {
+        name(due, 1).isOfKind('r').rowHas(32, 32).mustBeThere();
+        Desk desk = new Desk();
+        desk.fob.touch();
+        byte[] word = Bytes.run(77, 32);
+        due.is("MAKE", desk.send(Desk.MAKE, map().row(1, word)), 0);
+        due.holds("the WORD is signed", Desk.isSigned(Bytes.join(desk.out(4, 117), word), desk.key(0, 4),
+                desk.out(124, 64)));
+    }
+
+    @Says("2 t! 1 to 32 bytes;")
+    static void text(Due due) {
+        name(due, 2).isOfKind('t').textHas(1, 32).mustBeThere();
+    }
+
+    @Says("3 r! 1 to 16 the USER;")
+    static void user(Due due) {
+        name(due, 3).isOfKind('r').rowHas(1, 16).mustBeThere();
+        Desk desk = Desk.with("h", "u");
+        due.is("USER", desk.key(0, 1), Bytes.text("u"));
+    }
+
+    @Says("5 l of 16 each;")
+    static void list(Due due) {
+        name(due, 5).isOfKind('l').rowsOfListHave(16).mayBeMissing(39);
+    }
+
+    @Says("8 r 16 PROOF.")
+    static void proofIsARow(Due due) {
+        name(due, 8).isOfKind('r').rowHas(16, 16).mayBeMissing(39);
+    }
+
+    @Says("The HOUSE is HASH(2).")
+    static void house(Due due) {
+        byte[][] texts = {Bytes.of(0), Bytes.of(255), Bytes.text("house.example"), Bytes.run(5, 32)};
+        Desk desk = new Desk();
+        for (int k = 0; k < texts.length; k++) {
+            desk.fob.touch();
+            due.is("MAKE", desk.send(Desk.MAKE, map().text(2, texts[k])), 0);
+            due.is("HOUSE of " + k, desk.key(k, 0), Bytes.hash(texts[k]));
         }
-        DUE.is("right PROOF", desk.send(Desk.MAKE, Desk.makeMap("h", "u").row(8, proof)), 0);
-        DUE.is("the byte", desk.fob.out(36), 69);
-        byte[] data = Bytes.part(desk.out(), 4, 117);
-        DUE.holds("it is signed with the byte", Desk.isSigned(Bytes.join(data, Desk.WORD), desk.key(0, 4),
-                Bytes.part(desk.out(), 124, 64)));
+    }
+
+    @Says("25: some ID in 5 is that of a KEY of this HOUSE.")
+    static void excluded(Due due) {
+        Desk desk = Desk.with("h", "ab");
+        desk.make("other", "a");
+        desk.fob.touch();
+        String before = desk.counts();
+        due.is("ID of the first KEY", desk.send(Desk.MAKE, map().list(5, Desk.id(1))), 25);
+        due.is("ID of the second", desk.send(Desk.MAKE, map().list(5, OTHER, Desk.id(2), OTHER)), 25);
+        due.is("for a USER that has a KEY too", desk.send(Desk.MAKE, Desk.makeMap("h", "a").list(5, Desk.id(2))), 25);
+        byte[][] rows = new byte[15][];
+        java.util.Arrays.fill(rows, OTHER);
+        rows[14] = Desk.id(1);
+        due.is("the last of fifteen", desk.send(Desk.MAKE, map().list(5, rows)), 25);
+        due.is("nothing has changed", desk.counts(), before.replace(" 188 ", " 0 "));
+        due.is("ID of another HOUSE", desk.send(Desk.MAKE, map().list(5, Desk.id(3))), 0);
+    }
+
+    @Says("25: some ID in 5 is that of a KEY of this HOUSE.")
+    static void notExcluded(Due due) {
+        Desk desk = Desk.with("h", "ab");
+        desk.make("h", "a");
+        byte[][] near = {Bytes.turned(Desk.id(2), 0), Bytes.turned(Desk.id(2), 127), OTHER, new byte[16]};
+        desk.fob.touch();
+        due.is("IDS that are near", desk.send(Desk.MAKE, map().list(5, near)), 0);
+        desk.fob.touch();
+        due.is("ID of a KEY that is no more", desk.send(Desk.MAKE, map().list(5, Desk.id(1))), 0);
+        desk.fob.touch();
+        due.is("an empty LIST", desk.send(Desk.MAKE, map().list(5)), 0);
+    }
+
+    @Says("If there is a PIN: 54 without PROOF;")
+    static void withoutProof(Due due) {
+        Desk desk = withPin();
+        due.is("MAKE", desk.send(Desk.MAKE, map()), 54);
+        due.is("nothing has changed", desk.counts(), "0 8 0 1 1 0 0 0 2 0");
+        due.is("with PROOF", desk.send(Desk.MAKE, map().row(8, Desk.proof(1))), 0);
+    }
+
+    @Says("51 if PROOF is not the first 16 bytes of MAC(TOKEN, WORD).")
+    static void wrongProof(Due due) {
+        byte[] proof = Desk.proof(1);
+        for (int from = 0; from < 128; from += 32) {
+            Desk desk = withPin();
+            for (int bit = from; bit < from + 32; bit++) {
+                due.is("bit " + bit + " wrong", desk.send(Desk.MAKE, map().row(8, Bytes.turned(proof, bit))), 51);
+            }
+            due.is("nothing has changed", desk.counts(), "0 8 0 1 1 0 0 0 2 0");
+            due.is("right", desk.send(Desk.MAKE, map().row(8, proof)), 0);
+        }
+    }
+
+    @Says("51 if PROOF is not the first 16 bytes of MAC(TOKEN, WORD).")
+    static void proofOfOtherThings(Due due) {
+        Desk desk = withPin();
+        byte[] proof = Desk.proof(1);
+        due.is("of another WORD", desk.send(Desk.MAKE, map().row(1, Bytes.run(4, 32)).row(8, proof)), 51);
+        due.is("of the TOKEN before the PIN", desk.send(Desk.MAKE, map().row(8, Desk.proof(0))), 51);
+        due.is("of bytes 0", desk.send(Desk.MAKE, map().row(8, new byte[16])), 51);
+        due.is("the PIN itself", desk.send(Desk.MAKE, map().row(8, Desk.PIN_A)), 51);
         desk.fob.power();
         desk.fob.touch();
-        DUE.is("PROOF of a TOKEN before", desk.send(Desk.MAKE, Desk.makeMap("h", "u").row(8, proof)), 51);
+        due.is("of the TOKEN before power", desk.send(Desk.MAKE, map().row(8, proof)), 51);
+        due.is("of the TOKEN of now", desk.send(Desk.MAKE, map().row(8, Desk.proof(2))), 0);
     }
 
-    private static void order() {
+    @Says("(Without a PIN, PROOF is not looked at.)")
+    static void proofWithoutPin(Due due) {
         Desk desk = new Desk();
-        desk.make("h", "u");
-        byte[] id = desk.key(0, 2);
-        desk.setPin(Desk.PIN_A);
-        DUE.is("25 before 54", desk.send(Desk.MAKE, Desk.makeMap("h", "u").list(5, id)), 25);
-        DUE.is("25 before 51", desk.send(Desk.MAKE, Desk.makeMap("h", "u").list(5, id).row(8, id)), 25);
-        DUE.is("54 before 39", desk.send(Desk.MAKE, Desk.makeMap("h", "u")), 54);
-        DUE.is("51 before 39", desk.send(Desk.MAKE, Desk.makeMap("h", "u").row(8, id)), 51);
-        byte[] proof = Bytes.proof(desk.token(Desk.PIN_A), Desk.WORD);
-        DUE.is("39 with all else", desk.send(Desk.MAKE, Desk.makeMap("h", "u").row(8, proof)), 39);
-        for (int i = 1; i < 10; i++) {
-            desk.fob.touch();
-            DUE.is("make", desk.send(Desk.MAKE, Desk.makeMap("h", "u" + i).row(8, proof)), 0);
+        desk.fob.touch();
+        due.is("a wrong PROOF", desk.send(Desk.MAKE, map().row(8, OTHER)), 0);
+        due.is("the byte", desk.fob.out(36), 65);
+        desk.fob.touch();
+        due.is("a right one", desk.send(Desk.MAKE, map().row(8, Desk.proof(0))), 0);
+        due.is("the byte", desk.fob.out(36), 65);
+    }
+
+    @Says("40: there are 10 KEYS, none of this HOUSE and USER.")
+    static void full(Due due) {
+        Desk desk = new Desk();
+        for (int i = 0; i < 9; i++) {
+            desk.make(i % 2 == 0 ? "even" : "odd", "user" + i);
         }
-        DUE.is("54 before 40", desk.send(Desk.MAKE, Desk.makeMap("h", "x")), 54);
-        DUE.is("51 before 40", desk.send(Desk.MAKE, Desk.makeMap("h", "x").row(8, id)), 51);
-        DUE.is("40 before 39", desk.send(Desk.MAKE, Desk.makeMap("h", "x").row(8, proof)), 40);
+        due.is("the tenth", desk.make("odd", "user9"), 0);
+        desk.fob.touch();
+        String before = desk.counts();
+        due.is("the eleventh", desk.send(Desk.MAKE, Desk.makeMap("even", "user10")), 40);
+        due.is("a USER of the other HOUSE", desk.send(Desk.MAKE, Desk.makeMap("even", "user1")), 40);
+        due.is("another HOUSE", desk.send(Desk.MAKE, Desk.makeMap("h", "user1")), 40);
+        due.is("a USER that begins alike", desk.send(Desk.MAKE, Desk.makeMap("even", "user")), 40);
+        due.is("a USER that goes on", desk.send(Desk.MAKE, Desk.makeMap("even", "user44")), 40);
+        due.is("nothing has changed", desk.counts(), before.replace(" 188 ", " 0 "));
+        due.is("the first", desk.send(Desk.MAKE, Desk.makeMap("even", "user0")), 0);
+        due.is("the last of before", desk.make("odd", "user9"), 0);
+        due.is("one between", desk.make("even", "user4"), 0);
+        due.is("KEYS", desk.fob.count(0), 10);
+        due.is("all of them", desk.users(), "user1 user2 user3 user5 user6 user7 user8 user0 user9 user4");
+    }
+
+    @Says("39: it is not TOUCHED. Else it is")
+    static void notTouched(Due due) {
+        Desk desk = new Desk();
+        due.is("MAKE", desk.send(Desk.MAKE, map()), 39);
+        due.is("nothing has changed", desk.counts(), "0 8 0 0 0 0 0 0 1 0");
+        desk.make("h", "u");
+        due.is("for a USER that has a KEY", desk.send(Desk.MAKE, map()), 39);
+        due.is("the KEY stays", desk.key(0, 2), Desk.id(1));
+        desk.fob.touch();
+        desk.fob.power();
+        due.is("behind power", desk.send(Desk.MAKE, map()), 39);
+    }
+
+    @Says("Else it is not TOUCHED any more;")
+    static void touchIsUsed(Due due) {
+        Desk desk = new Desk();
+        desk.fob.touch();
+        due.is("MAKE", desk.send(Desk.MAKE, map()), 0);
+        due.is("TOUCHED", desk.fob.count(4), 0);
+        due.is("another", desk.send(Desk.MAKE, Desk.makeMap("h", "v")), 39);
+        desk.fob.touch();
+        due.is("a refused one", desk.send(Desk.MAKE, new MapOf()), 20);
+        due.is("TOUCHED stays", desk.fob.count(4), 1);
+    }
+
+    @Says("a KEY of this HOUSE and USER is no more;")
+    static void oldKeyIsNoMore(Due due) {
+        Desk desk = Desk.with("h", "abc");
+        desk.make("i", "a");
+        due.is("MAKE again", desk.make("h", "a"), 0);
+        due.is("KEYS", desk.fob.count(0), 4);
+        due.is("their order", desk.users(), "b c a a");
+        due.is("the one of the other HOUSE stays", desk.key(2, 2), Desk.id(4));
+        due.is("the new one", desk.key(3, 2), Desk.id(5));
+        desk.fob.touch();
+        due.is("the old ID is not FOUND", desk.send(Desk.GET, Desk.getMap("h").list(3, Desk.id(1))), 46);
+        due.is("a USER that begins alike is another", desk.make("h", "ab"), 0);
+        due.is("KEYS", desk.fob.count(0), 5);
+        due.is("the latest again", desk.make("h", "ab"), 0);
+        due.is("their order", desk.users(), "b c a a ab");
+    }
+
+    @Says("a new one comes: d = 1 + (a FRESH row modulo (n - 1)), COUNTER 0.")
+    static void newKeyComes(Due due) {
+        Desk desk = Desk.with("h", "uv");
+        desk.fob.advance(0, 7);
+        due.is("TURN", desk.fob.count(8), 3);
+        due.is("MAKE again", desk.make("h", "u"), 0);
+        due.is("TURN", desk.fob.count(8), 4);
+        due.is("ID of the d of TURN 3", desk.key(1, 2), Desk.id(3));
+        due.is("d times G", desk.key(1, 4), PlainCurve.point(Desk.secret(3)));
+        due.is("COUNTER", desk.key(1, 3), new byte[4]);
+        due.is("COUNTER in DATA", desk.out(37, 4), new byte[4]);
+        due.is("USER", desk.key(1, 1), Bytes.text("u"));
+        due.is("HOUSE", desk.key(1, 0), Bytes.hash(Bytes.text("h")));
+    }
+
+    @Says("DATA: HOUSE, one byte 65 (with a PIN: 69), COUNTER as 4 bytes, ID, x and y of d times G.")
+    static void data(Due due) {
+        Desk desk = Desk.with("h", "u");
+        due.is("DATA", desk.out(4, 117), Desk.madeData("h", 1, 65));
+        desk.setPin(Desk.PIN_A);
+        desk.fob.touch();
+        due.is("MAKE with PROOF", desk.send(Desk.MAKE, map().row(8, Desk.proof(2))), 0);
+        due.is("DATA with a PIN", desk.out(4, 117), Desk.madeData("h", 3, 69));
+    }
+
+    @Says("OUT: 1: DATA (a ROW); 2: the SIGNATURE of HASH(DATA, WORD) with d (a ROW).")
+    static void out(Due due) {
+        Desk desk = new Desk();
+        due.is("MAKE", desk.make("house.example", "user"), 0);
+        due.is("OUT", desk.out(), Desk.made("house.example", 1, 65));
+        due.is("bytes of OUT", desk.fob.count(6), 188);
+        due.holds("the library takes it for right", Desk.isSigned(Bytes.join(desk.out(4, 117), Desk.WORD),
+                desk.key(0, 4), desk.out(124, 64)));
+    }
+
+    @Says("OUT: 1: DATA (a ROW); 2: the SIGNATURE of HASH(DATA, WORD) with d (a ROW).")
+    static void outWithPin(Due due) {
+        Desk desk = withPin();
+        due.is("MAKE", desk.send(Desk.MAKE, map().row(8, Desk.proof(1))), 0);
+        due.is("OUT", desk.out(), Desk.made("h", 2, 69));
     }
 }

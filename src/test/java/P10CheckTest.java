@@ -1,36 +1,75 @@
-/** Promise 10: check looks at the latest SIGNATURE with the KEY of then. */
+/** Promise 10: check. */
 public final class P10CheckTest {
     public static void main(String[] args) {
-        Due due = new Due();
-        Desk desk = new Desk();
-        due.is("check() at first", desk.fob.check(), KeyFob.NONE);
-        desk.make("h", "a");
-        due.is("check()", desk.fob.check(), 1);
-        due.is("check() again", desk.fob.check(), 1);
+        Sentences.run(P10CheckTest.class);
+    }
+
+    @Says("Whether the SIGNATURE that was made latest is right for HASH(DATA, WORD) of then and the KEY of then:")
+    static void latestOfAll(Due due) {
+        Desk desk = Desk.with("h", "a");
+        due.is("of MAKE", desk.fob.check(), 1);
+        due.is("again", desk.fob.check(), 1);
         desk.make("h", "b");
         due.is("of another KEY", desk.fob.check(), 1);
         desk.get("h");
         due.is("of GET", desk.fob.check(), 1);
         desk.fob.send(Desk.NEXT);
-        due.is("of NEXT", desk.fob.check(), 1);
-        desk.fob.advance(0, 1000);
+        due.is("of NEXT, by another KEY", desk.fob.check(), 1);
+        desk.get("h");
+        due.is("of GET, by the KEY before", desk.fob.check(), 1);
+        due.is("SIGNATURES stay", desk.fob.count(9), 5);
+    }
+
+    @Says("Whether the SIGNATURE that was made latest is right for HASH(DATA, WORD) of then and the KEY of then:")
+    static void ofThen(Due due) {
+        Desk desk = Desk.with("h", "ab");
+        desk.get("h");
+        desk.fob.advance(1, 1000);
         due.is("the COUNTER of now does not matter", desk.fob.check(), 1);
-        due.is("a refused command does not matter", desk.fob.send(Desk.MAKE), 18);
-        due.is("check()", desk.fob.check(), 1);
+        byte[] word = new byte[32];
+        due.is("a refused MAKE with another WORD", desk.send(Desk.MAKE, Desk.makeMap("i", "x").row(1, word)), 39);
+        due.is("it does not matter", desk.fob.check(), 1);
+        due.is("a refused GET with another WORD", desk.send(Desk.GET, Desk.getMap("h").row(2, word)), 39);
+        due.is("it does not matter", desk.fob.check(), 1);
+        due.is("no map", desk.fob.send(Desk.MAKE), 18);
+        due.is("it does not matter", desk.fob.check(), 1);
+        desk.setPin(Desk.PIN_A);
+        due.is("a PIN does not matter", desk.fob.check(), 1);
         desk.fob.power();
-        due.is("behind power", desk.fob.check(), 1);
-        desk.fob.touch();
-        desk.send(Desk.GET, Desk.getMap("h").list(3, desk.key(0, 2)));
-        byte[] signature = Bytes.part(desk.out(), 62, 64);
-        byte[] message = Bytes.join(Bytes.part(desk.out(), 22, 37), Desk.WORD);
-        due.holds("the library takes it for right too", Desk.isSigned(message, desk.key(0, 4), signature));
-        due.holds("and not for another KEY", !Desk.isSigned(message, desk.key(1, 4), signature));
-        due.is("check() changes nothing", desk.fob.count(9), 5);
+        due.is("power does not matter", desk.fob.check(), 1);
+        due.is("a touch, and RESET without one", desk.fob.send(Desk.RESET), 39);
+        due.is("it does not matter", desk.fob.check(), 1);
+    }
+
+    @Says("with r, s of 1 .. n - 1, w = 1 / s, the x of h * w times G and r * w times (x, y) together is r modulo "
+            + "n: 1, 0.")
+    static void asTheLibraryChecks(Due due) {
+        Desk desk = Desk.with("h", "ab");
+        desk.get("h");
+        byte[] signature = desk.out(62, 64);
+        byte[] message = Bytes.join(desk.out(22, 37), Desk.WORD);
+        byte[] point = desk.key(1, 4);
+        due.is("check()", desk.fob.check(), 1);
+        due.holds("the document's rule", PlainCurve.isRight(signature, Bytes.hash(message), point));
+        due.holds("the library", Desk.isSigned(message, point, signature));
+        due.is("forged(255)", desk.fob.forged(255), 0);
+        due.holds("the document's rule", !PlainCurve.isRight(Bytes.turned(signature, 255), Bytes.hash(message), point));
+    }
+
+    @Says("NONE: none was made since the beginning (or RESET).")
+    static void none(Due due) {
+        Desk desk = new Desk();
+        due.is("at first", desk.fob.check(), KeyFob.NONE);
+        desk.send(Desk.MAKE, Desk.makeMap("h", "u"));
+        due.is("behind a refused MAKE", desk.fob.check(), KeyFob.NONE);
+        desk.send(Desk.GET, Desk.getMap("h"));
+        due.is("behind a refused GET", desk.fob.check(), KeyFob.NONE);
+        desk.make("h", "u");
+        due.is("behind MAKE", desk.fob.check(), 1);
         desk.fob.touch();
         desk.fob.send(Desk.RESET);
         due.is("behind RESET", desk.fob.check(), KeyFob.NONE);
-        desk.make("h", "a");
-        due.is("of the next one", desk.fob.check(), 1);
-        due.end();
+        desk.make("h", "u");
+        due.is("behind another MAKE", desk.fob.check(), 1);
     }
 }
