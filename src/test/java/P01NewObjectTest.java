@@ -27,6 +27,7 @@ public final class P01NewObjectTest {
         desk.setPin(Desk.PIN_A);
         desk.get("h");
         desk.fob.feed(1, 2, 3, 4, 5);
+        desk.fob.touch();
         due.is("one made before", other.counts(), "0 8 0 0 0 0 0 0 1 0");
         due.is("MAKE", other.make("h", "u"), 0);
         due.is("OUT", other.out(), Desk.made("h", 1, 65));
@@ -34,6 +35,22 @@ public final class P01NewObjectTest {
         due.is("one made later", later.counts(), "0 8 0 0 0 0 0 0 1 0");
         due.is("MAKE", later.make("h", "u"), 0);
         due.is("OUT", later.out(), Desk.made("h", 1, 65));
+    }
+
+    /** What WAITS in one object keeps its WORD and byte while another is used. */
+    @Says("`KeyFob()`: As at first;")
+    static void objectsInTurn(Due due) {
+        Desk desk = Desk.with("h", "ab");
+        Desk other = Desk.with("i", "cd");
+        byte[] word = Bytes.run(60, 32);
+        due.is("GET", desk.get("h"), 0);
+        due.is("GET of the other", other.send(Desk.GET, Desk.getMap("i").row(2, word).flag(5, false)), 0);
+        due.is("NEXT", desk.fob.send(Desk.NEXT), 0);
+        due.is("NEXT of the other", other.fob.send(Desk.NEXT), 0);
+        due.is("OUT", desk.out(), Desk.asserted("h", "a", 1, 1, 1).bytes());
+        due.is("OUT of the other", other.out(), Desk.asserted("i", "c", 1, 0, 1, word).bytes());
+        due.is("check()", desk.fob.check(), 1);
+        due.is("check() of the other", other.fob.check(), 1);
     }
 
     @Says("an empty tape, no")

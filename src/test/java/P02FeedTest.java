@@ -34,7 +34,7 @@ public final class P02FeedTest {
 
     @Says("FULL: it would have more than 400.")
     static void full(Due due) {
-        KeyFob fob = new KeyFob();
+        Fob fob = new Fob();
         for (int i = 1; i <= 20; i++) {
             due.is("feed " + i, fob.feed(i, -1, Integer.MIN_VALUE, Integer.MAX_VALUE, 0), 20 * i);
         }

@@ -6,7 +6,7 @@ public final class P03TrimTest {
 
     @Says("The tape keeps its first n bytes: n.")
     static void firstBytesAreKept(Due due) {
-        KeyFob fob = new KeyFob();
+        Fob fob = new Fob();
         due.is("trim(0) of an empty tape", fob.trim(0), 0);
         fob.feed(0xA1010100, -1, -1, -1, -1);
         due.is("trim(20)", fob.trim(20), 20);
@@ -28,7 +28,7 @@ public final class P03TrimTest {
 
     @Says("n bytes: n. OUTSIDE.")
     static void outside(Due due) {
-        KeyFob fob = new KeyFob();
+        Fob fob = new Fob();
         int[] never = {-1, -2, -400, 401, 1000, Integer.MAX_VALUE, Integer.MIN_VALUE};
         for (int n : never) {
             due.is("trim(" + n + ") of an empty tape", fob.trim(n), KeyFob.OUTSIDE);

@@ -56,6 +56,21 @@ public final class P10CheckTest {
         due.holds("the document's rule", !PlainCurve.isRight(Bytes.turned(signature, 255), Bytes.hash(message), point));
     }
 
+    /** The WORD was found by trying some 2^26 of them: bit 25 is the only one of the highest 32 of r that is 0. */
+    @Says("with r, s of 1 .. n - 1, w = 1 / s, the x of h * w times G and r * w times (x, y) together is r modulo "
+            + "n: 1, 0.")
+    static void numbersFromNOn(Due due) {
+        Desk desk = Desk.with("h", "u");
+        desk.fob.touch();
+        due.is("GET", desk.send(Desk.GET, Desk.getMap("h").row(2, Bytes.wide(38303833))), 0);
+        byte[] signature = desk.out(62, 64);
+        due.is("check()", desk.fob.check(), 1);
+        due.holds("r with bit 25 turned is not below n",
+                PlainCurve.number(Bytes.part(Bytes.turned(signature, 25), 0, 32)).compareTo(PlainCurve.N) >= 0);
+        due.is("forged(25)", desk.fob.forged(25), 0);
+        due.is("check()", desk.fob.check(), 1);
+    }
+
     @Says("NONE: none was made since the beginning (or RESET).")
     static void none(Due due) {
         Desk desk = new Desk();

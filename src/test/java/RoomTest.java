@@ -1,7 +1,7 @@
 import com.sun.management.ThreadMXBean;
 import java.lang.management.ManagementFactory;
 
-/** A run of 512 calls makes nothing but the object itself, and that is small. */
+/** A run of some 500 calls makes nothing but the object itself, and that is small. */
 public final class RoomTest {
     private static final long OBJECT_LIMIT = 100_000;
 
@@ -26,7 +26,7 @@ public final class RoomTest {
 
     private static int use(KeyFob fob) {
         int wrong = 0;
-        for (int i = 0; i < 40; i++) {
+        for (int i = 0; i < 36; i++) {
             fob.touch();
             // MAKE with a WORD of 32 bytes, a text and a USER of one byte each
             fob.feed(0xA3015820, 1, 2, 3, 4);
