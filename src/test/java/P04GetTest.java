@@ -247,7 +247,7 @@ public final class P04GetTest {
 
     @Says("OUT: 1: ID; 2: DATA; 3: the SIGNATURE of HASH(DATA, WORD) with its d; 4: USER;")
     static void out(Due due) {
-        String[] users = {"u", "sixteen bytes 16"};
+        String[] users = {"u", "sixteen bytes 16", "\0", "\0".repeat(16), "\u00FF".repeat(16)};
         for (String user : users) {
             Desk desk = new Desk();
             desk.make("house.example", user);
